@@ -290,10 +290,6 @@ public final class PatternPairs {
         private Reader(Tape tape, Places places) {
             this.tape = tape;
             this.places = places;
-            for (int i = 0; i <= MOST_OPEN; i++) {
-                choices[i] = new Ends();
-                sequences[i] = new Ends();
-            }
         }
 
         /** Answers the place at which the tape is broken, -1 if it is a pattern. */
@@ -309,14 +305,22 @@ public final class PatternPairs {
             if (broken < 0 && depth > 0) {
                 broken = at;
             }
-            choices[0].addChoice(sequences[0]);
-            places.whole.become(choices[0]);
+            here(choices).addChoice(here(sequences));
+            places.whole.become(here(choices));
             return broken;
         }
 
+        /** The open level's part; it is made when a pattern first opens so many, which few do. */
+        private Ends here(Ends[] levels) {
+            if (levels[depth] == null) {
+                levels[depth] = new Ends();
+            }
+            return levels[depth];
+        }
+
         private void beginLevel() {
-            choices[depth].becomeNoText();
-            sequences[depth].becomeEmptyText();
+            here(choices).becomeNoText();
+            here(sequences).becomeEmptyText();
         }
 
         private void readNext() {
@@ -359,16 +363,16 @@ public final class PatternPairs {
                 return;
             }
             at++;
-            choices[depth].addChoice(sequences[depth]);
-            atom.become(choices[depth]);
+            here(choices).addChoice(here(sequences));
+            atom.become(here(choices));
             depth--;
             repeatAndAppend();
         }
 
         private void nextChoice() {
             at++;
-            choices[depth].addChoice(sequences[depth]);
-            sequences[depth].becomeEmptyText();
+            here(choices).addChoice(here(sequences));
+            here(sequences).becomeEmptyText();
         }
 
         private void readAny() {
@@ -400,8 +404,8 @@ public final class PatternPairs {
             if (again) {
                 places.link(atom.tails, atom.heads);
             }
-            places.link(sequences[depth].tails, atom.heads);
-            sequences[depth].append(atom);
+            places.link(here(sequences).tails, atom.heads);
+            here(sequences).append(atom);
         }
 
         private static boolean isRepeat(int c) {
@@ -632,15 +636,21 @@ public final class PatternPairs {
         }
     }
 
-    /** Merges the states of a walk that no text tells apart, by splitting blocks of them until none splits. */
+    /**
+     * Merges the states of a walk that no text tells apart, by splitting blocks of them until none splits.
+     * A kind of bytes is pending while a block may still have states that go to different blocks with it.
+     */
     private static final class Merger {
         private static final int MOST_BLOCKS = MOST_STATES + 1;
+        private static final int KIND_WORDS = 2;
 
         private final SetWalk walk;
         private final int[] blockOf = new int[SetWalk.MOST];
         private final int[] newBlockOf = new int[SetWalk.MOST];
         private final int[] aimOf = new int[MOST_BLOCKS + 1];
         private final int[] nextPart = new int[MOST_BLOCKS + 1];
+        private final long[] kindsInto = new long[SetWalk.MOST * KIND_WORDS];
+        private final long[] pending = new long[KIND_WORDS];
         private int blocks;
 
         private Merger(SetWalk walk) {
@@ -649,19 +659,24 @@ public final class PatternPairs {
 
         /** Whether the blocks stay within the limit of states; only then they are whole. */
         private boolean mergeAll() {
-            begin();
-            boolean split = true;
-            for (int round = 0; split && round < SetWalk.MOST; round++) {
-                split = false;
+            beginBlocks();
+            findKindsInto();
+            Arrays.fill(pending, ~0L);
+            boolean more = true;
+            for (int round = 0; more && round < SetWalk.MOST; round++) {
+                more = false;
                 for (int k = 0; k < walk.kinds.total && blocks <= MOST_BLOCKS; k++) {
-                    split = splitBy(k) || split;
+                    if (hasBit(pending, 0, k)) {
+                        splitBy(k);
+                        more = true;
+                    }
                 }
             }
             return blocks <= MOST_BLOCKS;
         }
 
         /** Every place leads to an end of the pattern, so only the set of none, or a start without places, is dead. */
-        private void begin() {
+        private void beginBlocks() {
             boolean startLives = walk.states > 2;
             blocks = startLives ? 3 : 1;
             blockOf[DEAD] = DEAD;
@@ -671,15 +686,35 @@ public final class PatternPairs {
             }
         }
 
-        private boolean splitBy(int kind) {
-            int before = blocks;
-            Arrays.fill(aimOf, 0, before, -1);
-            Arrays.fill(nextPart, 0, before, -1);
+        private void findKindsInto() {
+            Arrays.fill(kindsInto, 0L);
+            for (int s = 0; s < walk.states; s++) {
+                for (int k = 0; k < walk.kinds.total; k++) {
+                    addBit(kindsInto, walk.stepOf(s, k) * KIND_WORDS, k);
+                }
+            }
+        }
+
+        private void splitBy(int kind) {
+            pending[kind >> 6] &= ~(1L << (kind & 63));
+            Arrays.fill(aimOf, 0, blocks, -1);
+            Arrays.fill(nextPart, 0, blocks, -1);
             for (int s = 0; s < walk.states && blocks <= MOST_BLOCKS; s++) {
                 newBlockOf[s] = partOf(blockOf[s], blockOf[walk.stepOf(s, kind)]);
             }
-            System.arraycopy(newBlockOf, 0, blockOf, 0, walk.states);
-            return blocks > before;
+            for (int s = 0; s < walk.states && blocks <= MOST_BLOCKS; s++) {
+                moveToNewBlock(s);
+            }
+        }
+
+        /** A state that moves may tell those apart that go to it, and makes all kinds into it pending. */
+        private void moveToNewBlock(int s) {
+            if (blockOf[s] != newBlockOf[s]) {
+                blockOf[s] = newBlockOf[s];
+                for (int w = 0; w < KIND_WORDS; w++) {
+                    pending[w] |= kindsInto[s * KIND_WORDS + w];
+                }
+            }
         }
 
         /** Which part of a block goes to the aim: the block itself keeps its first state's, others become new blocks. */

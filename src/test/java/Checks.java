@@ -1,5 +1,7 @@
 /** Counts the answers of one test that are not due, and ways to bring texts to the tape. */
 final class Checks {
+    private static final int MOST_SHOWN = 50;
+
     private int made;
     private int wrong;
 
@@ -7,6 +9,8 @@ final class Checks {
         made++;
         if (!got.equals(want)) {
             wrong++;
+        }
+        if (!got.equals(want) && wrong <= MOST_SHOWN) {
             System.out.println(what + " answered " + got + ", due is " + want);
         }
     }
