@@ -65,6 +65,15 @@ final class Checks {
         return x.set(which);
     }
 
+    /** What set does with this text, and what place tells then unless it is -1, such as "2 states". */
+    static String setting(PatternPairs x, int which, String text) {
+        put(x, text);
+        int[] states = {0};
+        String thrown = thrownBy(() -> states[0] = x.set(which));
+        String answer = thrown.equals("nothing") ? states[0] + " states" : thrown;
+        return x.place() == -1 ? answer : answer + " at " + x.place();
+    }
+
     static boolean has(PatternPairs x, int which, String text) {
         put(x, text);
         return x.fits(which);

@@ -14,6 +14,7 @@ final class RoomTest {
     private static final long ROOM_OBJECTS = 600_000;
     private static final long ROOM_ELEMENTS = 7_300_000;
     private static final int CALLS = 512;
+    private static final int ROUNDS = 20;
 
     public static void main(String[] args) throws IllegalAccessException {
         Checks c = new Checks();
@@ -52,12 +53,12 @@ final class RoomTest {
         long id = Thread.currentThread().getId();
         allCalls(x);
         long before = bean.getThreadAllocatedBytes(id);
-        for (int i = 0; i < 100; i++) {
+        for (int i = 0; i < ROUNDS; i++) {
             allCalls(x);
         }
         long made = bean.getThreadAllocatedBytes(id) - before;
-        System.out.println("100 rounds of calls made " + made + " bytes");
-        c.due("calls make nothing", made < 20_000, true);
+        System.out.println(ROUNDS + " rounds of calls made " + made + " bytes");
+        c.due("calls make nothing", made < 2_000, true);
     }
 
     private static void allCalls(PatternPairs x) {

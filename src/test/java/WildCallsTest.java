@@ -1,6 +1,6 @@
 import java.util.Random;
 
-/** Any calls in any order: none throws what the document does not name, and 512 of them end. */
+/** Any calls in any order: none throws what the document does not name, and all of them end. */
 final class WildCallsTest {
     private static final String[] PIECES = {
         "a", "b", "(", ")", "|", "*", "+", "?", "[a-z]", "[^a]", ".", "\\n", "(a|b)", "(a?b)*", "((a", "))", "abcabc",
@@ -8,12 +8,15 @@ final class WildCallsTest {
     };
     private static final int[] EDGES = {-1, 0, 1, 2, 3, 4, 5, 11, 12, 13, 20, 2047, 2048, Integer.MIN_VALUE, Integer.MAX_VALUE};
 
+    /** A round makes some four calls, so that an object has not more than its 512. */
+    private static final int ROUNDS = 100;
+
     public static void main(String[] args) {
         Checks c = new Checks();
         Random random = new Random(7);
-        for (int run = 0; run < 300; run++) {
+        for (int run = 0; run < 1500; run++) {
             PatternPairs x = new PatternPairs();
-            for (int call = 0; call < 512; call++) {
+            for (int call = 0; call < ROUNDS; call++) {
                 wildCall(c, x, random);
             }
         }
