@@ -546,7 +546,6 @@ public final class PatternPairs {
             kinds.sort(places.takers);
             steps = rowFor(MOST * kinds.total, steps);
             Arrays.fill(steps, 0, kinds.total, DEAD);
-            Arrays.fill(sets, 0, 2 * WORDS, 0L);
             Arrays.fill(slots, DEAD);
             states = 2;
             noneReached = false;
@@ -625,7 +624,7 @@ public final class PatternPairs {
             return steps[s * kinds.total + kind];
         }
 
-        /** Never so for START: the empty text is left out of the automaton. */
+        /** Never so for START, whose row stays without places: the empty text is left out of the automaton. */
         private boolean accepts(int s) {
             for (int w = 0; w < WORDS; w++) {
                 if ((sets[s * WORDS + w] & places.whole.tails[w]) != 0L) {

@@ -22,8 +22,12 @@ final class LimitEdgesTest {
         test.c.close();
     }
 
+    /** On an object that has met both limits, and a pattern of many sets, so that nothing of them must stay. */
     private void dueSet(String text, String want) {
         PatternPairs x = new PatternPairs();
+        Checks.setting(x, 0, "a?".repeat(400));
+        Checks.setting(x, 0, a(200));
+        Checks.setting(x, 0, "(a|b)*a" + "(a|b)".repeat(6));
         c.due("set(0) to " + text, Checks.setting(x, 0, text), want);
         c.due("set(1) to " + text, Checks.setting(x, 1, text), want);
     }

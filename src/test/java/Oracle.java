@@ -3,13 +3,15 @@ import java.util.ArrayDeque;
 import java.util.ArrayList;
 import java.util.BitSet;
 import java.util.HashMap;
+import java.util.HashSet;
 import java.util.List;
 import java.util.Map;
 import java.util.Random;
+import java.util.Set;
 
 /**
  * A pattern made at random, and what is due for it, found in another way than the class does: by a net
- * with free moves, states of all 128 bytes, and a table of the pairs of states that a text tells apart.
+ * with free moves, states of all 128 bytes, and names of states that grow with the length of the texts.
  */
 final class Oracle {
     private static final String ESCAPED = "/\\|*+?()[.]-^";
@@ -91,41 +93,36 @@ final class Oracle {
     /** How many states the least automaton has: those that differ, but for one from which there is no text. */
     int states() {
         int n = steps.size();
-        boolean[][] differ = new boolean[n][n];
-        for (boolean more = true; more;) {
-            more = false;
-            for (int s = 0; s < n; s++) {
-                for (int t = 0; t < s; t++) {
-                    if (!differ[s][t] && toldApart(s, t, differ)) {
-                        differ[s][t] = true;
-                        differ[t][s] = true;
-                        more = true;
-                    }
-                }
-            }
+        List<Object> names = new ArrayList<>(accepting);
+        int known = 0;
+        for (int told = 1; told > known;) {
+            known = told;
+            names = longerNames(names);
+            told = new HashSet<>(names).size();
         }
         boolean[] live = live();
-        int states = 0;
+        Set<Object> states = new HashSet<>();
         for (int s = 0; s < n; s++) {
-            boolean isNew = live[s];
-            for (int t = 0; t < s; t++) {
-                isNew = isNew && differ[s][t];
+            if (live[s]) {
+                states.add(names.get(s));
             }
-            states += isNew ? 1 : 0;
         }
-        return states;
+        return states.size();
     }
 
-    private boolean toldApart(int s, int t, boolean[][] differ) {
-        if (accepting.get(s) != (boolean) accepting.get(t)) {
-            return true;
-        }
-        for (int b = 0; b < 128; b++) {
-            if (differ[steps.get(s)[b]][steps.get(t)[b]]) {
-                return true;
+    /** Names that tell states apart by texts of one byte more: a state's own name and those it comes to by each byte. */
+    private List<Object> longerNames(List<Object> names) {
+        Map<List<Object>, Integer> known = new HashMap<>();
+        List<Object> longer = new ArrayList<>();
+        for (int s = 0; s < names.size(); s++) {
+            List<Object> name = new ArrayList<>(List.of(names.get(s)));
+            for (int t : steps.get(s)) {
+                name.add(names.get(t));
             }
+            known.putIfAbsent(name, known.size());
+            longer.add(known.get(name));
         }
-        return false;
+        return longer;
     }
 
     private boolean[] live() {
