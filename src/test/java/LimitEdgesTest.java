@@ -17,6 +17,7 @@ final class LimitEdgesTest {
         test.noneIsNoneWithoutSuchAText();
         test.textsThatAreNotEmpty();
         test.bothLimits();
+        test.callsOnTheGreatest();
         test.brokenComesFirst();
         test.limitTellsNoPlace();
         test.c.close();
@@ -144,6 +145,25 @@ final class LimitEdgesTest {
         dueSet("a?".repeat(200), BEYOND);
         dueSet("a?".repeat(398) + "a*", "2 states");
         dueSet("a?".repeat(399) + "a*", BEYOND);
+    }
+
+    /** Every call answers on two patterns of 200 states, too. */
+    private void callsOnTheGreatest() {
+        PatternPairs x = new PatternPairs();
+        c.due("set 0", Checks.setting(x, 0, "a?".repeat(199)), "200 states");
+        c.due("set 1", Checks.setting(x, 1, "(" + a(199) + ")*"), "200 states");
+        for (int n = 0; n <= 12; n++) {
+            c.due("count 0 of " + n, x.count(0, n), 1L);
+            c.due("count 1 of " + n, x.count(1, n), n == 0 ? 1L : 0L);
+        }
+        c.due("empty", x.empty(0) && x.empty(1), true);
+        c.due("199 bytes", Checks.has(x, 0, a(199)) && Checks.has(x, 1, a(199)), true);
+        c.due("200 bytes", Checks.has(x, 0, a(200)) || Checks.has(x, 1, a(200)), false);
+        c.due("1990 bytes", Checks.has(x, 1, a(1990)), true);
+        c.due("0 and not 1", Checks.text(x, 1), "<a>");
+        c.due("1 and not 0", x.first(2), 398);
+        c.due("both", x.first(3), 0);
+        c.due("neither", Checks.text(x, 4), "<\0>");
     }
 
     /** Promise 4: "Broken: UnsupportedOperationException, PLACE is told; a LIMIT: IndexOutOfBoundsException." */
